@@ -408,7 +408,8 @@ public final class EchoCave {
         }
 
         boolean drowns(int chamber, int strength) {
-            return strength < 2 * bats[chamber] + 1;
+            // The 1 is a bound of its own: without bats there, only what has no strength left ends.
+            return strength < 2 * bats[chamber] || strength < 1;
         }
 
         int strengthBehind(int passage, int strength) {
