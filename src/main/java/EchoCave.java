@@ -408,8 +408,8 @@ public final class EchoCave {
         }
 
         boolean drowns(int chamber, int strength) {
-            // The 1 is a bound of its own: without bats there, only what has no strength left ends.
-            return strength < 2 * bats[chamber] || strength < 1;
+            // "2 * the bats there and 1" is one amount: just 2 * the bats drowns too, and without bats 0 does.
+            return strength < 2 * bats[chamber] + 1;
         }
 
         int strengthBehind(int passage, int strength) {

@@ -202,7 +202,7 @@ final class Model {
                 heard.facts = new int[] {c.time, c.run.place, c.run.syllable, c.strength, c.strength >= ear ? 1 : 0};
                 outcome.kept.add(heard);
             }
-            if (c.strength < 2 * here.bats || c.strength < 1) {
+            if (c.strength < 2 * here.bats + 1) {
                 continue;
             }
             if (here.syllable == c.run.syllable && !setOff.contains(c.chamber) && c.time + here.delay <= 200) {

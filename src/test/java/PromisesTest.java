@@ -1,3 +1,5 @@
+import java.util.Arrays;
+
 /** The promises one by one; the answers due are worked out by hand from the document. */
 public final class PromisesTest {
     private static final Class<IllegalArgumentException> ARGUMENT = IllegalArgumentException.class;
@@ -23,6 +25,8 @@ public final class PromisesTest {
         test.soundInOrderOfComings();
         test.soundGrowsWeaker();
         test.soundAndBats();
+        test.soundAtTheBoundOfBats();
+        test.soundAtTheBoundOfBatsWhereTheCallerStands();
         test.soundAndClappers();
         test.soundAndTheLastTime();
         test.soundAndWater();
@@ -291,18 +295,83 @@ public final class PromisesTest {
         row.setClapper(5, 1, 0);
         checks.is("runs with a clapper at 1", row.would(1, 1, 3), 2);
         row.setClapper(5, 0, 0);
-        // 20 come to the chamber 2; in the document's "less than 2 * the bats there and 1" each is read as a bound.
-        row.setClapper(2, 1, 0);
-        int[] runs = {0, 2, 9, 2, 10, 2, 11, 1};
-        for (int i = 0; i < runs.length; i += 2) {
-            row.setBats(2, runs[i]);
-            checks.is("runs with " + runs[i] + " bats", row.would(1, 1, 3), runs[i + 1]);
+        // 1 comes to the chamber 5, 4 to the chamber 4, 9 to the chamber 3, and 20 to the chamber 2:
+        // "2 * the bats there and 1" is one amount, so that just 2 * the bats ends there too.
+        int[][] runs = {{5, 0, 2}, {5, 1, 1}, {4, 1, 2}, {4, 2, 1}, {3, 4, 2}, {3, 5, 1}, {2, 9, 2}, {2, 10, 1},
+            {2, 11, 1}};
+        for (int[] r : runs) {
+            row.setClapper(r[0], 1, 0);
+            row.setBats(r[0], r[1]);
+            checks.is("runs with " + r[1] + " bats in " + r[0], row.would(1, 1, 3), r[2]);
+            row.setBats(r[0], 0);
+            row.setClapper(r[0], 0, 0);
         }
         // Bats where the caller stands drown nothing of what is heard.
         EchoCave heard = oneChamber(40, 1);
         heard.setBats(0, 20);
         checks.is("say(1, 1) among bats", heard.say(1, 1), 1);
         heardIs(heard, row(2, 0, 1, 32, 1));
+    }
+
+    /** 40 come to the chamber 2, where these bats are and a clapper of the syllable 1; 1 and 2 give nothing back. */
+    private static EchoCave fortyAmong(int bats) {
+        EchoCave cave = new EchoCave();
+        cave.addChamber(0, 30, 0);
+        cave.addChamber(0, 30, bats);
+        cave.addPassage(0, 1, 1, 8);
+        cave.addPassage(1, 2, 1, 2);
+        cave.setClapper(2, 1, 0);
+        return cave;
+    }
+
+    /** Each call by which sound runs or is told of, with a strength of 2 * the bats and 2, and of just 2 * the bats. */
+    private void soundAtTheBoundOfBats() {
+        EchoCave on = fortyAmong(19);
+        EchoCave ends = fortyAmong(20);
+        int[] wouldOn = {1, 1, 4, 2};
+        int[] wouldEnd = {0, 0, -1, 1};
+        for (int what = 0; what < 4; what++) {
+            checks.is("would(1, 1, " + what + "), 19 bats", on.would(1, 1, what), wouldOn[what]);
+            checks.is("would(1, 1, " + what + "), 20 bats", ends.would(1, 1, what), wouldEnd[what]);
+        }
+        checks.is("longest(1, 1), 19 bats", on.longest(1, 1), 1);
+        checks.is("longest(1, 1), 20 bats", ends.longest(1, 1), 0);
+        checks.is("quickest(1), 19 bats", on.quickest(1), 1);
+        checks.is("quickest(1), 20 bats", ends.quickest(1), -1);
+        checks.is("say(1, 1), 19 bats", on.say(1, 1), 1);
+        heardIs(on, row(2, 0, 1, 0, 0), row(4, 0, 1, 24, 1));
+        checks.is("say(1, 1), 20 bats", ends.say(1, 1), 0);
+        heardIs(ends, row(2, 0, 1, 0, 0));
+        checks.is("inOrder(), 19 bats", on.inOrder(), true);
+        checks.is("inOrder(), 20 bats", ends.inOrder(), false);
+        checks.is("first(0), 19 bats", on.first(0), 4);
+        checks.is("first(0), 20 bats", ends.first(0), -1);
+        checks.is("mean(), 19 bats", on.mean(), 12.0);
+        checks.is("mean(), 20 bats", ends.mean(), 0.0);
+        // The syllable 1 needs the chamber 1, so that the clapper of the syllable 2 has to stand among the bats.
+        on.setClapper(2, 0, 0);
+        ends.setClapper(2, 0, 0);
+        on.setClapper(1, 1, 20);
+        ends.setClapper(1, 1, 20);
+        checks.is("advise(12, 1, 2, 20), 19 bats", on.advise(12, 1, 2, 20), 2);
+        checks.is("advise(12, 1, 2, 20), 20 bats", ends.advise(12, 1, 2, 20), -1);
+    }
+
+    /** The clapper's 36 come to the chamber 0, and go on from there into the other passage, or not. */
+    private void soundAtTheBoundOfBatsWhereTheCallerStands() {
+        for (int bats = 17; bats <= 18; bats++) {
+            EchoCave cave = new EchoCave();
+            cave.addChamber(0, 30, 0);
+            cave.addChamber(100, 30, 0);
+            cave.addPassage(0, 1, 1, 6);
+            cave.addPassage(0, 2, 1, 0);
+            cave.setClapper(1, 1, 0);
+            cave.setBats(0, bats);
+            int[][] due = {row(2, 0, 1, 0, 0), row(2, 0, 1, 81, 1), row(2, 0, 1, 36, 1), row(4, 0, 1, 28, 1)};
+            int heard = bats == 17 ? 4 : 3;
+            checks.is("say(1, 1), " + bats + " bats with the caller", cave.say(1, 1), heard - 1);
+            heardIs(cave, Arrays.copyOf(due, heard));
+        }
     }
 
     private void soundAndClappers() {
