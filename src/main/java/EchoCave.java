@@ -193,7 +193,7 @@ public final class EchoCave {
         requireArgument(isWithin(beat, 1, MOST_BEAT));
         int word = 0;
         int most = 0;
-        // All six are tried: a longer word may come back in order where a shorter one does not.
+        // All six are tried: that a shorter word comes back where a longer one does is not promised.
         for (int times = 1; times <= MOST_PLACES; times++) {
             word = word * 10 + syllable;
             if (wouldComeInOrder(word, beat)) {
@@ -389,8 +389,10 @@ public final class EchoCave {
         }
 
         private void addDoor(int chamber, int passage) {
-            passageBehind[chamber][doors[chamber]] = passage;
-            doors[chamber]++;
+            if (doors[chamber] < MOST_PASSAGES) {
+                passageBehind[chamber][doors[chamber]] = passage;
+                doors[chamber]++;
+            }
         }
 
         void putClapper(int chamber, int itsSyllable, int itsDelay) {

@@ -31,6 +31,16 @@ final class Checks {
         is("digest() after " + call, cave.digest(), before);
     }
 
+    /** Just this is kept of what was heard: a row for each, with what heard() tells in its order. */
+    void heardIs(EchoCave cave, int[]... due) {
+        is("count(8)", cave.count(8), due.length);
+        for (int index = 0; index < due.length && index < cave.count(8); index++) {
+            for (int what = 0; what < 5; what++) {
+                is("heard(" + index + ", " + what + ")", cave.heard(index, what), due[index][what]);
+            }
+        }
+    }
+
     void end() {
         System.out.println(made + " checks, " + wrong + " wrong");
         if (wrong != 0 || made == 0) {

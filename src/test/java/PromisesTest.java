@@ -46,40 +46,14 @@ public final class PromisesTest {
         test.checks.end();
     }
 
-    /** One chamber with such a wall, behind a passage of this length. */
-    private static EchoCave oneChamber(int wall, int length) {
-        EchoCave cave = new EchoCave();
-        cave.addChamber(wall, 30, 0);
-        cave.addPassage(0, 1, length, 0);
-        return cave;
-    }
-
-    /** A word of n syllables is heard 18 * n times, as every syllable comes back by every passage once. */
-    private static EchoCave eighteenPassages() {
-        EchoCave cave = oneChamber(100, 1);
-        for (int passage = 1; passage < 18; passage++) {
-            cave.addPassage(0, 1, 1, 0);
-        }
-        return cave;
-    }
-
     /** Walls that give nothing back, and a clapper in each of two chambers. */
     private static EchoCave twoClappers(int delayOf1, int delayOf2) {
-        EchoCave cave = oneChamber(0, 1);
+        EchoCave cave = Caves.one(0, 1, 0);
         cave.addChamber(0, 30, 0);
         cave.addPassage(0, 2, 1, 0);
         cave.setClapper(1, 1, delayOf1);
         cave.setClapper(2, 2, delayOf2);
         return cave;
-    }
-
-    private void heardIs(EchoCave cave, int[]... due) {
-        checks.is("count(8)", cave.count(8), due.length);
-        for (int index = 0; index < due.length && index < cave.count(8); index++) {
-            for (int what = 0; what < 5; what++) {
-                checks.is("heard(" + index + ", " + what + ")", cave.heard(index, what), due[index][what]);
-            }
-        }
     }
 
     private static int[] row(int... facts) {
@@ -239,16 +213,16 @@ public final class PromisesTest {
 
     private void soundInOrderOfComings() {
         // By the number of the passage: what comes by 0 takes both ways back before what comes by 1.
-        EchoCave byPassage = oneChamber(100, 2);
+        EchoCave byPassage = Caves.one(100, 2, 0);
         byPassage.addPassage(0, 1, 2, 2);
         checks.is("say(1, 1)", byPassage.say(1, 1), 2);
-        heardIs(byPassage, row(4, 0, 1, 81, 1), row(4, 0, 1, 72, 1));
+        checks.heardIs(byPassage, row(4, 0, 1, 81, 1), row(4, 0, 1, 72, 1));
         // By the number of the run ahead of that of the passage, at the time 4.
-        EchoCave byRun = oneChamber(100, 1);
+        EchoCave byRun = Caves.one(100, 1, 0);
         byRun.addChamber(100, 30, 0);
         byRun.addPassage(0, 2, 2, 0);
         checks.is("say(12, 2)", byRun.say(12, 2), 4);
-        heardIs(byRun, row(2, 0, 1, 81, 1), row(4, 0, 1, 81, 1), row(4, 1, 2, 81, 1), row(6, 1, 2, 81, 1));
+        checks.heardIs(byRun, row(2, 0, 1, 81, 1), row(4, 0, 1, 81, 1), row(4, 1, 2, 81, 1), row(6, 1, 2, 81, 1));
         // By the number of the chamber: the clapper of 1 is set off ahead of that of 2, so its run comes first.
         EchoCave byChamber = new EchoCave();
         byChamber.addChamber(0, 30, 0);
@@ -259,7 +233,7 @@ public final class PromisesTest {
         byChamber.setClapper(2, 1, 0);
         checks.is("say(1, 1)", byChamber.say(1, 1), 2);
         // Those of the clappers go on from the chamber 0, into the other chamber, and come back from there with 0.
-        heardIs(byChamber, row(2, 0, 1, 0, 0), row(2, 0, 1, 0, 0), row(2, 0, 1, 54, 1), row(2, 0, 1, 48, 1),
+        checks.heardIs(byChamber, row(2, 0, 1, 0, 0), row(2, 0, 1, 0, 0), row(2, 0, 1, 54, 1), row(2, 0, 1, 48, 1),
                 row(4, 0, 1, 0, 0), row(4, 0, 1, 0, 0));
     }
 
@@ -269,17 +243,17 @@ public final class PromisesTest {
         cave.addChamber(33, 30, 0);
         cave.addPassage(0, 1, 4, 9);
         checks.is("say(7, 1)", cave.say(7, 1), 1);
-        heardIs(cave, row(8, 0, 7, 6, 1));
+        checks.heardIs(cave, row(8, 0, 7, 6, 1));
         cave.setEar(6);
         checks.is("say(7, 1) with the ear 6", cave.say(7, 1), 1);
-        heardIs(cave, row(8, 0, 7, 6, 1));
+        checks.heardIs(cave, row(8, 0, 7, 6, 1));
         cave.setEar(7);
         checks.is("say(7, 1) with the ear 7", cave.say(7, 1), 0);
-        heardIs(cave, row(8, 0, 7, 6, 0));
+        checks.heardIs(cave, row(8, 0, 7, 6, 0));
         // 33 of 100 of 90 is 29, cut ahead of the passage: 26, not 27.
-        EchoCave cut = oneChamber(33, 1);
+        EchoCave cut = Caves.one(33, 1, 0);
         cut.say(7, 1);
-        heardIs(cut, row(2, 0, 7, 26, 1));
+        checks.heardIs(cut, row(2, 0, 7, 26, 1));
     }
 
     private void soundAndBats() {
@@ -307,10 +281,10 @@ public final class PromisesTest {
             row.setClapper(r[0], 0, 0);
         }
         // Bats where the caller stands drown nothing of what is heard.
-        EchoCave heard = oneChamber(40, 1);
+        EchoCave heard = Caves.one(40, 1, 0);
         heard.setBats(0, 20);
         checks.is("say(1, 1) among bats", heard.say(1, 1), 1);
-        heardIs(heard, row(2, 0, 1, 32, 1));
+        checks.heardIs(heard, row(2, 0, 1, 32, 1));
     }
 
     /** 40 come to the chamber 2, where these bats are and a clapper of the syllable 1; 1 and 2 give nothing back. */
@@ -339,9 +313,9 @@ public final class PromisesTest {
         checks.is("quickest(1), 19 bats", on.quickest(1), 1);
         checks.is("quickest(1), 20 bats", ends.quickest(1), -1);
         checks.is("say(1, 1), 19 bats", on.say(1, 1), 1);
-        heardIs(on, row(2, 0, 1, 0, 0), row(4, 0, 1, 24, 1));
+        checks.heardIs(on, row(2, 0, 1, 0, 0), row(4, 0, 1, 24, 1));
         checks.is("say(1, 1), 20 bats", ends.say(1, 1), 0);
-        heardIs(ends, row(2, 0, 1, 0, 0));
+        checks.heardIs(ends, row(2, 0, 1, 0, 0));
         checks.is("inOrder(), 19 bats", on.inOrder(), true);
         checks.is("inOrder(), 20 bats", ends.inOrder(), false);
         checks.is("first(0), 19 bats", on.first(0), 4);
@@ -370,15 +344,15 @@ public final class PromisesTest {
             int[][] due = {row(2, 0, 1, 0, 0), row(2, 0, 1, 81, 1), row(2, 0, 1, 36, 1), row(4, 0, 1, 28, 1)};
             int heard = bats == 17 ? 4 : 3;
             checks.is("say(1, 1), " + bats + " bats with the caller", cave.say(1, 1), heard - 1);
-            heardIs(cave, Arrays.copyOf(due, heard));
+            checks.heardIs(cave, Arrays.copyOf(due, heard));
         }
     }
 
     private void soundAndClappers() {
-        EchoCave cave = oneChamber(0, 2);
+        EchoCave cave = Caves.one(0, 2, 0);
         cave.setClapper(1, 2, 5);
         checks.is("say(212, 3)", cave.say(212, 3), 1);
-        heardIs(cave, row(4, 0, 2, 0, 0), row(7, 1, 1, 0, 0), row(9, 0, 2, 54, 1), row(10, 2, 2, 0, 0));
+        checks.heardIs(cave, row(4, 0, 2, 0, 0), row(7, 1, 1, 0, 0), row(9, 0, 2, 54, 1), row(10, 2, 2, 0, 0));
         checks.is("each word sets it off anew", cave.say(212, 3), 1);
         // The bats let only the clapper of 1 reach that of 2, which has the place of the first syllable 1.
         EchoCave chain = new EchoCave();
@@ -390,35 +364,14 @@ public final class PromisesTest {
         chain.setClapper(2, 1, 0);
         checks.is("would(21, 1, 3)", chain.would(21, 1, 3), 4);
         checks.is("say(21, 1)", chain.say(21, 1), 2);
-        heardIs(chain, row(2, 0, 2, 0, 0), row(3, 1, 1, 0, 0), row(23, 1, 1, 27, 1), row(25, 1, 1, 12, 1));
+        checks.heardIs(chain, row(2, 0, 2, 0, 0), row(3, 1, 1, 0, 0), row(23, 1, 1, 27, 1), row(25, 1, 1, 12, 1));
     }
 
     private void soundAndTheLastTime() {
-        checks.is("a clapper at 200", lateCave(9, 4, 4).would(111112, 20, 3), 10);
-        checks.is("a clapper at 201", lateCave(9, 5, 4).would(111112, 20, 3), 9);
-        checks.is("heard at 200", lateCave(5, 0, 4).would(111112, 20, 2), 200);
-        checks.is("not heard at 201", lateCave(5, 0, 5).would(111112, 20, 2), 176);
-    }
-
-    /** The sixth syllable, said at 100, is said anew at 129, 158 and 187, and from there goes to a chamber 4. */
-    private static EchoCave lateCave(int lengthTo4, int delayOf4, int lengthTo0) {
-        EchoCave cave = new EchoCave();
-        cave.addChamber(0, 30, 0);
-        cave.addChamber(0, 30, 12);
-        cave.addChamber(0, 30, 12);
-        cave.addChamber(0, 30, 12);
-        cave.addChamber(0, 30, 0);
-        cave.addPassage(0, 1, 9, 9);
-        cave.addPassage(1, 2, 9, 9);
-        cave.addPassage(2, 3, 9, 9);
-        cave.addPassage(3, 4, lengthTo4, 9);
-        cave.addPassage(4, 5, 4, 9);
-        cave.addPassage(5, 0, lengthTo0, 9);
-        cave.setClapper(1, 2, 20);
-        cave.setClapper(2, 2, 20);
-        cave.setClapper(3, 2, 20);
-        cave.setClapper(4, 2, delayOf4);
-        return cave;
+        checks.is("a clapper at 200", Caves.late(9, 4, 4).would(111112, 20, 3), 10);
+        checks.is("a clapper at 201", Caves.late(9, 5, 4).would(111112, 20, 3), 9);
+        checks.is("heard at 200", Caves.late(5, 0, 4).would(111112, 20, 2), 200);
+        checks.is("not heard at 201", Caves.late(5, 0, 5).would(111112, 20, 2), 176);
     }
 
     private void soundAndWater() {
@@ -433,9 +386,9 @@ public final class PromisesTest {
     }
 
     private void promise10() {
-        EchoCave cave = oneChamber(100, 3);
+        EchoCave cave = Caves.one(100, 3, 0);
         checks.is("say(12, 4)", cave.say(12, 4), 2);
-        heardIs(cave, row(6, 0, 1, 81, 1), row(10, 1, 2, 81, 1));
+        checks.heardIs(cave, row(6, 0, 1, 81, 1), row(10, 1, 2, 81, 1));
         checks.is("say(999999, 20)", cave.say(999999, 20), 6);
         checks.is("heard(5, 0)", cave.heard(5, 0), 106);
         checks.is("say(1, 1)", cave.say(1, 1), 1);
@@ -445,7 +398,7 @@ public final class PromisesTest {
         checks.fails(cave, ARGUMENT, "say(1, 0)", () -> cave.say(1, 0));
         checks.fails(cave, ARGUMENT, "say(1, 21)", () -> cave.say(1, 21));
         // Sixty are kept: all of three syllables, and six of the fourth one.
-        EchoCave many = eighteenPassages();
+        EchoCave many = Caves.side(18);
         checks.is("say(123, 1)", many.say(123, 1), 54);
         checks.is("say(12345, 1)", many.say(12345, 1), 60);
         checks.is("heard(53, 1)", many.heard(53, 1), 2);
@@ -455,19 +408,19 @@ public final class PromisesTest {
     }
 
     private void promise11() {
-        EchoCave cave = oneChamber(50, 1);
+        EchoCave cave = Caves.one(50, 1, 0);
         checks.fails(cave, INDEX, "heard(0, 0) before a word", () -> cave.heard(0, 0));
         cave.say(34, 2);
         cave.setEar(50);
-        heardIs(cave, row(2, 0, 3, 40, 1), row(4, 1, 4, 40, 1));
+        checks.heardIs(cave, row(2, 0, 3, 40, 1), row(4, 1, 4, 40, 1));
         cave.would(5, 1, 0);
-        heardIs(cave, row(2, 0, 3, 40, 1), row(4, 1, 4, 40, 1));
+        checks.heardIs(cave, row(2, 0, 3, 40, 1), row(4, 1, 4, 40, 1));
         checks.fails(cave, INDEX, "heard(2, 0)", () -> cave.heard(2, 0));
         checks.fails(cave, INDEX, "heard(-1, 0)", () -> cave.heard(-1, 0));
         checks.fails(cave, INDEX, "heard(0, 5)", () -> cave.heard(0, 5));
         checks.fails(cave, INDEX, "heard(0, -1)", () -> cave.heard(0, -1));
         cave.say(3, 2);
-        heardIs(cave, row(2, 0, 3, 40, 0));
+        checks.heardIs(cave, row(2, 0, 3, 40, 0));
         checks.fails(cave, INDEX, "heard(1, 0)", () -> cave.heard(1, 0));
     }
 
@@ -490,7 +443,7 @@ public final class PromisesTest {
         once.say(1221, 1);
         checks.is("inOrder() of 1221", once.inOrder(), false);
         // Others between them do not matter.
-        EchoCave many = eighteenPassages();
+        EchoCave many = Caves.side(18);
         many.say(1234, 1);
         checks.is("inOrder() of 1234", many.inOrder(), true);
         many.say(12345, 1);
@@ -512,7 +465,7 @@ public final class PromisesTest {
         cave.say(1, 2);
         checks.is("first(0) without", cave.first(0), -1);
         checks.fails(cave, INDEX, "first(1)", () -> cave.first(1));
-        EchoCave twice = oneChamber(100, 1);
+        EchoCave twice = Caves.one(100, 1, 0);
         twice.addPassage(0, 1, 4, 0);
         twice.say(12, 2);
         checks.is("first(0) of two", twice.first(0), 2);
@@ -532,7 +485,7 @@ public final class PromisesTest {
         for (int what = 0; what < due.length; what++) {
             checks.is("count(" + what + ")", cave.count(what), due[what]);
         }
-        EchoCave heard = oneChamber(0, 2);
+        EchoCave heard = Caves.one(0, 2, 0);
         heard.setClapper(1, 2, 5);
         heard.say(212, 3);
         heard.setEar(50);
@@ -545,7 +498,7 @@ public final class PromisesTest {
     }
 
     private void promise15() {
-        EchoCave cave = oneChamber(0, 2);
+        EchoCave cave = Caves.one(0, 2, 0);
         cave.setClapper(1, 2, 5);
         cave.say(1, 1);
         long before = cave.digest();
@@ -571,7 +524,7 @@ public final class PromisesTest {
 
     private void promise16() {
         // The clapper of 1 is needed for the syllable 1, so that of the syllable 2 has to stand in 2.
-        EchoCave cave = oneChamber(0, 1);
+        EchoCave cave = Caves.one(0, 1, 0);
         cave.addChamber(0, 30, 0);
         cave.addPassage(1, 2, 1, 0);
         checks.is("advise(1, 1, 1, 0)", cave.advise(1, 1, 1, 0), 1);
@@ -593,12 +546,12 @@ public final class PromisesTest {
     }
 
     private void promise17() {
-        EchoCave many = eighteenPassages();
+        EchoCave many = Caves.side(18);
         long before = many.digest();
         checks.is("longest(1, 1) by 18 passages", many.longest(1, 1), 4);
         checks.is("digest() after longest", many.digest(), before);
-        checks.is("longest(9, 20)", oneChamber(100, 1).longest(9, 20), 6);
-        checks.is("longest(1, 1) without a wall", oneChamber(0, 1).longest(1, 1), 0);
+        checks.is("longest(9, 20)", Caves.one(100, 1, 0).longest(9, 20), 6);
+        checks.is("longest(1, 1) without a wall", Caves.one(0, 1, 0).longest(1, 1), 0);
         checks.is("longest(1, 1) in one chamber", new EchoCave().longest(1, 1), 0);
         checks.is("longest(1, 1) with a clapper", twoClappers(0, 0).longest(1, 1), 1);
         checks.is("longest(3, 1) with no such clapper", twoClappers(0, 0).longest(3, 1), 0);
@@ -609,7 +562,8 @@ public final class PromisesTest {
     }
 
     private void promise18() {
-        // The syllable 1 is heard at 2 + delay, the 2 behind it at 2 + beat; at one time the clapper set off first leads.
+        // The syllable 1 is heard at 2 + delay, the 2 behind it at 2 + beat; at one time the clapper set off first
+        // leads.
         int[] due = {0, 1, 1, 1, 10, 10, 20, 20};
         for (int i = 0; i < due.length; i += 2) {
             EchoCave cave = twoClappers(due[i], 0);
@@ -697,16 +651,16 @@ public final class PromisesTest {
     }
 
     private void promise21() {
-        EchoCave cave = oneChamber(100, 1);
+        EchoCave cave = Caves.one(100, 1, 0);
         checks.is("mean() before a word", cave.mean(), 0.0);
         for (int narrow = 1; narrow <= 2; narrow++) {
             cave.addChamber(100, 30, 0);
             cave.addPassage(0, narrow + 1, 1, narrow);
         }
         cave.say(1, 1);
-        heardIs(cave, row(2, 0, 1, 81, 1), row(2, 0, 1, 72, 1), row(2, 0, 1, 64, 1));
+        checks.heardIs(cave, row(2, 0, 1, 81, 1), row(2, 0, 1, 72, 1), row(2, 0, 1, 64, 1));
         checks.is("mean() of 81, 72 and 64", cave.mean(), 217.0 / 3);
-        EchoCave faint = oneChamber(0, 2);
+        EchoCave faint = Caves.one(0, 2, 0);
         faint.setClapper(1, 2, 5);
         faint.say(212, 3);
         checks.is("mean() of 54 and three times 0", faint.mean(), 13.5);
