@@ -36,6 +36,9 @@ public final class FaceTest {
         "double mean()",
         "long digest()",
     };
+    private static final String[] HEADLINES = {
+        "addChamber", "// ---- the cave", "say", "// ---- words", "would", "// ---- what would be",
+    };
     private static final String[] RULED_OUT = {
         "package ", "->", "::", "catch", "finally", "synchronized", "assert ", "instanceof", "import java.io",
         "Random", "System.", "Exact(", "record ", "String.format",
@@ -50,7 +53,29 @@ public final class FaceTest {
         for (String word : RULED_OUT) {
             checks.is("the source has '" + word + "'", source.contains(word), false);
         }
+        checkWordsOfTheDocument(checks, Document.onOneLine(source));
         checks.end();
+    }
+
+    /** Each declaration as the document writes it, with the names of its parameters, and in its order. */
+    private static void checkWordsOfTheDocument(Checks checks, String source) throws IOException {
+        int from = 0;
+        for (String declaration : Document.face()) {
+            int at = source.indexOf(" " + declaration + " {", from);
+            checks.is("the source has, in its place, " + declaration, at >= 0, true);
+            from = Math.max(from, at);
+            checkHeadline(checks, source, declaration);
+        }
+    }
+
+    /** The interface says these ahead of the first call of each part. */
+    private static void checkHeadline(Checks checks, String source, String declaration) {
+        for (int i = 0; i < HEADLINES.length; i += 2) {
+            if (declaration.contains(" " + HEADLINES[i] + "(")) {
+                String told = HEADLINES[i + 1] + " " + declaration + " {";
+                checks.is("the source has " + told, source.contains(told), true);
+            }
+        }
     }
 
     private static void checkMethods(Checks checks) {

@@ -32,6 +32,7 @@ public final class TermsBoundsTest {
         test.comesAt200ButNotLater();
         test.saysAt200ButNotLater();
         test.orderByTime();
+        test.orderByChamberAheadOfRun();
         test.orderOfManyThatAreDueAtOnce();
         test.asManyComingsAsThereCanBe();
         test.clappersAreNumberedAsTheyAreSetOff();
@@ -407,6 +408,28 @@ public final class TermsBoundsTest {
         cave.addPassage(0, 2, 1, 2);
         cave.say(12, 1);
         checks.heardIs(cave, row(2, 0, 1, 64, 1), row(3, 1, 2, 64, 1), row(18, 0, 1, 81, 1), row(19, 1, 2, 81, 1));
+    }
+
+    /** At the time 2 each of two runs sets off a clapper; what both say is heard at 4, by the order of setting off. */
+    private void orderByChamberAheadOfRun() {
+        for (int first = 1; first <= 2; first++) {
+            int second = 3 - first;
+            EchoCave cave = new EchoCave();
+            cave.addChamber(0, 30, 0);
+            cave.addChamber(0, 30, 0);
+            // The second syllable is said at 1, so that its chamber is nearer by 1.
+            cave.addPassage(0, first, 2, 0);
+            cave.addPassage(0, second, 1, 0);
+            cave.setClapper(first, 7, 0);
+            cave.setClapper(second, 8, 1);
+            checks.is("say(78, 1), 7 in " + first, cave.say(78, 1), 2);
+            // What is said in the chamber 1 has the smaller number, be it set off by the run 0 or by the run 1.
+            int[] of7 = row(4, 0, 7, 54, 1);
+            int[] of8 = row(4, 1, 8, 54, 1);
+            checks.heardIs(cave, row(2, 0, 7, 0, 0), row(3, 1, 8, 0, 0), row(4, 0, 7, 0, 0), first == 1 ? of7 : of8,
+                    first == 1 ? of8 : of7, row(5, 1, 8, 0, 0), row(6, 0, 7, 0, 0), row(8, 1, 8, 0, 0));
+            checks.is("inOrder(), 7 in " + first, cave.inOrder(), first == 1);
+        }
     }
 
     /** Eleven chambers, behind a passage each, in any order of their lengths: by time, then by run, then by passage. */
